@@ -95,6 +95,14 @@ public final class ClassesTest {
         fieldRefused(house);
         due.notNow(house, "3: an eleventh field", () -> house.field(0, 0, 0));
         due.same("3: many(1)", house.many(1), 10);
+        FramemapHouse other = new FramemapHouse();
+        due.same("3: field(0, 1, 0)", other.field(0, 1, 0), 0);
+        other.method(0, false, -1, -1, 1);
+        other.add(0, 5, 0);
+        other.add(0, 20, 0);
+        other.add(0, 24, 0);
+        due.same("3: it is a LONG", other.ofMethod(0, 0), 0);
+        due.same("3: two words", other.ofFrame(0, 2, 1), 2);
     }
 
     private void fieldRefused(FramemapHouse house) {

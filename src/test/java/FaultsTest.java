@@ -100,6 +100,9 @@ public final class FaultsTest {
         fine("six words", PLAIN, 1, 0, 1, 0, 1, 0, 26, 0);
         fault("a seventh word", 1, 3, PLAIN, 1, 0, 1, 0, 1, 0, 2, 0, 26, 0);
         fault("a LONG on five", 1, 3, PLAIN, 1, 0, 1, 0, 2, 0, 1, 0, 26, 0);
+        for (int op : new int[] {0, 1, 2, 3, 4, 5, 17}) {
+            fault("on six, op " + op, 1, 3, PLAIN, 1, 0, 1, 0, 1, 0, op, 0, 26, 0);
+        }
         fault("DOUBLE of six", 1, 4, PLAIN, 1, 0, 1, 0, 2, 0, 2, 0, 12, 0, 26, 0);
         fault("LOAD on six", 1, 3, PLAIN, 1, 0, 1, 0, 1, 0, 5, 0, 26, 0);
         fault("NEW on six", 1, 3, PLAIN, 1, 0, 1, 0, 1, 0, 17, 1, 26, 0);
@@ -194,6 +197,14 @@ public final class FaultsTest {
         fine("LOAD REFERENCE of NULL", OF_REFERENCES, 2, 0, 8, 5, 5, 5, 25, 0);
         fine("LOAD REFERENCE of MADE", PLAIN, 17, 1, 8, 5, 5, 5, 18, 0, 26, 0);
         fault("LOAD REFERENCE of HALF", 7, 1, MAKER, 5, 0, 26, 0);
+        build(OF_LONG, 4, 1, 24, 0);
+        house.map(5, 0, 0, 0, true);
+        house.word(5, 0, 1, 2);
+        due.same("16: LOAD LONG without its second word", house.ofMethod(5, 2), 3);
+        house.word(5, 0, 2, 3);
+        due.same("16: LOAD LONG with it", house.ofMethod(5, 2), 0);
+        house.word(5, 0, 1, 0);
+        due.same("16: LOAD LONG without its first word", house.ofMethod(5, 2), 3);
         fine("LOAD the last LOCAL of a LONG", OF_LONG, 4, 1, 7, 4, 4, 4, 24, 0);
     }
 
@@ -262,6 +273,7 @@ public final class FaultsTest {
         house.word(5, 1, 6, 102);
         due.same("16: NEW with another one on the STACK", house.ofMethod(5, 2), 0);
         fault("GO back with MADE on the STACK", 5, 1, PLAIN, 2, 0, 17, 1, 14, 1);
+        fault("GO back with MADE on the STACK", 7, 2, PLAIN, 17, 1, 0, 0, 15, 1, 26, 0);
         fault("GO back with MADE in a LOCAL", 7, 2, PLAIN, 17, 1, 8, 1, 14, 0);
         fault("GO to itself with MADE", 5, 2, PLAIN, 17, 1, 2, 0, 16, 2, 26, 0);
         fault("GO if, back with MADE", 7, 3, PLAIN, 17, 1, 8, 1, 0, 0, 15, 0, 26, 0);
@@ -275,6 +287,9 @@ public final class FaultsTest {
         due.same("17: not DONE ahead", house.ofFrame(5, 1, 3), 0);
         due.same("17: DONE then", house.ofFrame(5, 2, 3), 1);
         fine("THROW of what is not DONE", MAKER, 5, 1, 27, 0);
+        fault("DONE on the first way only", 7, 6, MAKER, 5, 1, 16, 8, 5, 0, 18, 0, 2, 0, 8, 0, 26, 0, 14, 6, 2, 0, 8, 0,
+                14, 7);
+        due.same("16: a round for that alone", house.ofMethod(5, 6), 3);
         fault("DONE on one way only", 7, 5, MAKER, 5, 1, 16, 4, 5, 0, 18, 0, 2, 0, 26, 0);
     }
 
@@ -344,6 +359,8 @@ public final class FaultsTest {
         marks("STORE of NULL as an INT", 2, 11, 0, 1, 0, 0, 0);
         build(PLAIN, 0, 0, 0, 0, 7, 2, 26, 0);
         marks("STORE of INTS as a LONG", 3, 11, 0, 2, 3, 0, 0);
+        build(PLAIN, 1, 0, 13, 0, 0, 0, 6, 5, 26, 0);
+        marks("a second word on the STACK is not behind a LOCAL", 4, 11, 0, 0, 0, 0, 1, 3, 2);
         build(OF_LONG, 2, 0, 8, 0, 4, 1, 7, 0, 26, 0);
         marks("a LONG over a LONG", 4, 2, 3, 0, 0, 0, 0);
     }
@@ -371,6 +388,13 @@ public final class FaultsTest {
     }
 
     private void makesReady() {
+        build(PLAIN, 26, 0, 17, 1, 5, 3, 26, 0);
+        house.map(5, 1, 0, 0, true);
+        house.word(5, 1, 3, 102);
+        due.same("16: MADE at another place stays", house.ofMethod(5, 2), 0);
+        house.word(5, 1, 3, 101);
+        due.same("16: MADE at this place is NOTHING", house.ofMethod(5, 2), 3);
+        due.same("16: its place", house.ofMethod(5, 3), 2);
         build(PLAIN, 17, 1, 12, 0, 8, 3, 12, 0, 18, 0, 26, 0);
         marks("MADE", 4, 11, 0, 0, 100, 0, 0, 100, 100);
         marks("all that are the same", 5, 11, 0, 0, 11, 0, 0, 11);

@@ -120,6 +120,9 @@ public final class FoundTest {
         due.same("17: 5 at the place", house.ofFrame(0, 3, 4), 5);
         due.same("17: broken", house.ofFrame(0, 3, 0), 2);
         due.noSuch(house, "18: of a broken one", () -> house.mark(0, 3, 0));
+        house.put(0, 2, 11, 0);
+        facts("broken otherwise", 1, 2);
+        due.same("17: no 5 any more", house.ofFrame(0, 3, 4), 0);
         build(3, 1, 15, 4, 5, 0, 28, 0, 14, 5, 26, 0);
         facts("as many locks", 5, 4, 10, 1, 0, 2);
         due.same("17: the next is broken without fault", house.ofFrame(0, 5, 4), 0);
@@ -135,6 +138,8 @@ public final class FoundTest {
         tell(1, 16, 1, 14, 0);
         due.same("16: broken, of a CONSTRUCTOR", house.ofMethod(1, 0), 1);
         due.same("16: at the least place", house.ofMethod(1, 1), 0);
+        build(2, 0, 11, 0, 11, 0, 14, 1);
+        facts("what is broken comes round", 1, 1, 1, 2, 0, 3, 3);
         build(14, 2, 26, 0, 11, 0, 14, 2);
         facts("at the least broken place", 1, 2, 10, 0, 1, 2);
         build(3, 1, 15, 3, 14, 4, 11, 0, 2, 0, 26, 0);

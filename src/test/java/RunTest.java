@@ -23,6 +23,7 @@ public final class RunTest {
         test.goes();
         test.references();
         test.fields();
+        test.fieldsOfEachRun();
         test.calls();
         test.nullThrows();
         test.casts();
@@ -121,6 +122,18 @@ public final class RunTest {
         runs("STORE", 21, 7, 0, 5, 6, 21);
         build(OF_LONGS, 4, 3, 7, 1, 4, 1, 24, 0);
         runs("STORE of a LONG", 21, 7, 0, 3, 4, 7);
+        build(OF_INTS, 3, 1, 6, 0, 3, 0, 23, 0);
+        runs("STORE into the LOCAL 0", 21, 7, 0, 3, 4, 21);
+        build(OF_LONGS, 4, 1, 7, 3, 11, 0, 26, 0);
+        runs("STORE takes the LONG", 21, 7, 3, 2, 2);
+        build(OF_LONGS, 4, 1, 4, 3, 10, 0, 7, 1, 11, 0, 26, 0);
+        runs("ADD takes both LONGS", 21, 7, 3, 4, 4);
+        build(OF_INTS, 3, 1, 3, 2, 9, 0, 6, 1, 11, 0, 26, 0);
+        runs("ADD takes both INTS", 21, 7, 3, 4, 4);
+        build(OF_INTS, 3, 1, 3, 2, 13, 0, 11, 0, 11, 0, 11, 0, 26, 0);
+        runs("CHANGE takes both", 21, 7, 3, 5, 5);
+        build(OF_INTS, 0, 7, 2, 0, 13, 0, 6, 3, 16, 6, 14, 5, 3, 3, 23, 0);
+        runs("CHANGE of an INT and NULL", 1, 2, 0, 7, 7, 7);
         build(OF_LONGS, 4, 3, 7, 2, 4, 2, 24, 0);
         runs("STORE of a LONG across", 21, 7, 0, 3, 4, 7);
         build(OF_LONGS, 4, 3, 7, 2, 4, 1, 24, 0);
@@ -173,6 +186,19 @@ public final class RunTest {
         runs("NULL is PUT", 2, -1, 0, 8, 9, -1);
         build(GIVES_INT, 5, 0, 5, 1, 21, 2, 5, 1, 0, 8, 21, 0, 5, 0, 20, 2, 20, 0, 23, 0);
         runs("the very object", 1, 0, 0, 9, 10, 8);
+    }
+
+    private void fieldsOfEachRun() {
+        build(GIVES_INT, 5, 0, 20, 0, 5, 0, 0, 9, 21, 0, 23, 0);
+        runs("not PUT so far", 1, 0, 0, 5, 6, 0);
+        runs("not PUT in this run", 1, 0, 0, 5, 6, 0);
+        build(OF_REFERENCES, 17, 2, 8, 3, 14, 0);
+        for (int run = 0; run < 5; run++) {
+            runs("many objects", 2, 3, 2, 2, 200, 0, -1, 7, 0, 67, run + 1);
+        }
+        house.put(4, 0, 5, 1);
+        house.put(4, 1, 25, 0);
+        runs("objects of a later run", 2, 3, 0, 1, 2, 2, -1, 3, 0, 0, 6);
     }
 
     private void calls() {
@@ -231,6 +257,9 @@ public final class RunTest {
         build(OF_REFERENCES, 2, 0, 5, 1, 20, 2, 25, 0, 8, 5, 26, 0);
         house.handler(4, 2, 3, 4, 0);
         runs("the STACK has that alone", -1, -1, 3, 5, 4, 0, 0, 23);
+        build(PLAIN, 2, 0, 2, 0, 2, 0, 27, 0, 11, 0, 11, 0, 26, 0);
+        house.handler(4, 3, 4, 4, 0);
+        runs("what was on the STACK is gone", 0, 0, 3, 5, 5, 0, 0, 31);
         build(PLAIN, 2, 0, 28, 0);
         house.handler(4, 1, 2, 1, 0);
         runs("a HANDLER to its own place", 0, 0, 3, 1, 1, 0, -1, 1);
@@ -270,6 +299,11 @@ public final class RunTest {
         runs("INIT of all that are it", 0, 0, 0, 10, 11, 0, -1, 2047, 0, 1);
         build(PLAIN, 17, 1, 8, 3, 0, 0, 15, 5, 26, 0, 5, 3, 16, 0, 26, 0);
         runs("MADE for GO", 0, 0, 3, 6, 5);
+        build(PLAIN, 2, 0, 11, 0, 17, 1, 18, 0, 26, 0);
+        runs("NEW at 2", 0, 0, 0, 4, 5, 0, -1, 31, 0, 1);
+        runs("NEW at 2, once more", 0, 0, 0, 4, 5, 0, -1, 31, 0, 1, 2);
+        build(OF_INTS, 17, 1, 3, 1, 15, 6, 11, 0, 5, 0, 11, 0, 8, 0, 0, 1, 6, 1, 14, 0);
+        runs("NEW makes the LOCAL 0 NOTHING", 0, 0, 3, 4, 11, 0, -1, 975, 0, 2);
         // NEW makes what a LOCAL has of its place NOTHING, in a run too.
         build(GIVES_INT, 17, 1, 5, 1, 16, 7, 2, 0, 8, 1, 8, 3, 14, 0, 11, 0, 5, 3, 18, 0, 0, 1, 23, 0);
         runs("what NEW makes NOTHING", 1, 0, 3, 8, 11, 0, -1, 255, 0, 2);
