@@ -21,7 +21,6 @@ public final class FramemapHouse {
     private static final int OBJECT = 0;
     private static final int MOST_PACKAGE = 3;
     private static final int OPEN = 0;
-    private static final int PACKAGE = 1;
     private static final int PROTECTED = 2;
     private static final int OWN = 3;
 

@@ -298,6 +298,13 @@ public final class CodeTest {
         house.clear(0);
         house.add(0, 27, 0);
         due.same("15: no GO, and nothing behind the THROW", house.suggest(0), 0);
+        FramemapHouse other = house();
+        other.add(0, 14, 3);
+        other.add(0, 2, 0);
+        other.add(0, 11, 0);
+        other.add(0, 26, 0);
+        due.same("15: where the first one goes to", other.suggest(0), 1);
+        due.same("15: a map at 3", mapAt(other, 0, 3), 1);
     }
 
     private static int mapAt(FramemapHouse house, int method, int place) {

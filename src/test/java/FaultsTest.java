@@ -97,6 +97,16 @@ public final class FaultsTest {
         for (int op : new int[] {6, 8, 15, 16, 20, 22, 23, 25, 27, 28, 29}) {
             fault("of nothing, op " + op, 1, 0, PLAIN, op, op == 15 || op == 16 ? 1 : 0, 26, 0);
         }
+        FramemapHouse giving = new FramemapHouse();
+        giving.method(0, false, -1, -1, 1);
+        for (int step : new int[] {2, 2, 2, 2, 2, 2}) {
+            giving.add(0, step, 0);
+        }
+        giving.add(0, 19, 0);
+        giving.add(0, 24, 0);
+        due.same("16: CALL that gives a LONG on six", giving.ofMethod(0, 0), 1);
+        due.same("16: at the CALL", giving.ofMethod(0, 1), 6);
+        due.same("16: CALL that gives a LONG on five", giving.verdictWith(0, 0, 14, 1), 0);
         fine("six words", PLAIN, 1, 0, 1, 0, 1, 0, 26, 0);
         fault("a seventh word", 1, 3, PLAIN, 1, 0, 1, 0, 1, 0, 2, 0, 26, 0);
         fault("a LONG on five", 1, 3, PLAIN, 1, 0, 1, 0, 2, 0, 1, 0, 26, 0);

@@ -126,8 +126,12 @@ public final class RunTest {
         runs("STORE into the LOCAL 0", 21, 7, 0, 3, 4, 21);
         build(OF_LONGS, 4, 1, 7, 3, 11, 0, 26, 0);
         runs("STORE takes the LONG", 21, 7, 3, 2, 2);
+        build(OF_LONGS, 4, 1, 7, 3, 14, 0);
+        runs("STORE takes the LONG, again and again", 21, 7, 2, 2, 200);
         build(OF_LONGS, 4, 1, 4, 3, 10, 0, 7, 1, 11, 0, 26, 0);
         runs("ADD takes both LONGS", 21, 7, 3, 4, 4);
+        build(OF_LONGS, 4, 1, 4, 3, 10, 0, 7, 1, 14, 0);
+        runs("ADD takes both LONGS, again and again", 21, 7, 2, 0, 200);
         build(OF_INTS, 3, 1, 3, 2, 9, 0, 6, 1, 11, 0, 26, 0);
         runs("ADD takes both INTS", 21, 7, 3, 4, 4);
         build(OF_INTS, 3, 1, 3, 2, 13, 0, 11, 0, 11, 0, 11, 0, 26, 0);
@@ -304,6 +308,8 @@ public final class RunTest {
         runs("NEW at 2, once more", 0, 0, 0, 4, 5, 0, -1, 31, 0, 1, 2);
         build(OF_INTS, 17, 1, 3, 1, 15, 6, 11, 0, 5, 0, 11, 0, 8, 0, 0, 1, 6, 1, 14, 0);
         runs("NEW makes the LOCAL 0 NOTHING", 0, 0, 3, 4, 11, 0, -1, 975, 0, 2);
+        build(OF_INTS, 2, 0, 11, 0, 17, 1, 3, 1, 15, 9, 11, 0, 5, 3, 11, 0, 26, 0, 8, 3, 0, 1, 6, 1, 14, 2);
+        runs("NEW at 2 makes a LOCAL NOTHING", 0, 0, 3, 6, 13, 0, -1, 7743, 0, 2);
         // NEW makes what a LOCAL has of its place NOTHING, in a run too.
         build(GIVES_INT, 17, 1, 5, 1, 16, 7, 2, 0, 8, 1, 8, 3, 14, 0, 11, 0, 5, 3, 18, 0, 0, 1, 23, 0);
         runs("what NEW makes NOTHING", 1, 0, 3, 8, 11, 0, -1, 255, 0, 2);
