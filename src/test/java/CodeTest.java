@@ -81,11 +81,12 @@ public final class CodeTest {
         due.same("8: of another method", house.add(1, 26, 0), 0);
         due.same("8: many(3) of both", house.many(3), 25);
         due.same("8: the op is kept", house.put(0, 23, 26, 0), 2);
+        FramemapHouse other = house();
         takeRight("8:", (op, a) -> {
-            house.add(2, op, a);
-            return house.cut(2);
+            other.add(2, op, a);
+            return other.cut(2);
         });
-        refuseWrong(house, "8:", (op, a) -> house.add(2, op, a));
+        refuseWrong(other, "8:", (op, a) -> other.add(2, op, a));
         FramemapHouse small = new FramemapHouse();
         small.method(0, true, -1, -1, -1);
         due.notRight(small, "8: GET without a field", () -> small.add(0, 20, 0));

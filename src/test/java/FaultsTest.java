@@ -271,6 +271,16 @@ public final class FaultsTest {
         marks("what it took is gone", 3, 11, 0, 0, 0, 0, 0);
         fault("INIT with a wrong ARGUMENT, of MADE", 2, 3, PLAIN, 17, 2, 12, 0, 2, 0, 18, 1, 26, 0);
         marks("it does the rest", 4, 11, 0, 0, 0, 0, 0, 12);
+        fault("INIT of MADE by another CONSTRUCTOR", 7, 3, PLAIN, 17, 1, 12, 0, 8, 4, 18, 3, 17, 1, 26, 0);
+        marks("nothing else is changed", 4, 11, 0, 0, 0, 100, 0);
+        fault("INIT of two of MADE by another CONSTRUCTOR", 7, 2, PLAIN, 17, 1, 12, 0, 18, 3, 26, 0);
+        marks("what is below stays MADE", 3, 11, 0, 0, 0, 0, 0, 100);
+        fault("INIT of HALF by another one, then GIVE", 7, 1, MAKER, 5, 0, 18, 4, 26, 0);
+        marks("it is HALF still", 2, 5, 11, 0, 0, 0, 0);
+        due.same("17: it is not DONE", house.ofFrame(5, 2, 3), 0);
+        due.same("17: nor is it to be given", house.ofFrame(5, 2, 4), 7);
+        fault("INIT of an INT", 7, 2, OF_INT, 0, 0, 12, 0, 18, 0, 23, 0);
+        marks("INTS stay INTS", 3, 11, 1, 0, 0, 0, 0, 1);
     }
 
     private void unmadeOthers() {
@@ -321,6 +331,10 @@ public final class FaultsTest {
         fine("LOCK and FREE", PLAIN, 5, 0, 28, 0, 5, 0, 29, 0, 26, 0);
         due.same("17: a LOCK more", house.ofFrame(5, 2, 2), 1);
         due.same("17: a LOCK less", house.ofFrame(5, 4, 2), 0);
+        fine("two LOCKS", PLAIN, 2, 0, 28, 0, 2, 0, 28, 0, 2, 0, 29, 0, 2, 0, 29, 0, 26, 0);
+        for (int place = 0; place <= 8; place++) {
+            due.same("17: LOCKS at " + place, house.ofFrame(5, place, 2), new int[] {0, 0, 1, 1, 2, 2, 1, 1, 0}[place]);
+        }
         fault("GIVE with a LOCK", 9, 2, PLAIN, 2, 0, 28, 0, 26, 0);
         fault("THROW with a LOCK", 9, 3, PLAIN, 2, 0, 28, 0, 2, 0, 27, 0);
         house.handler(5, 2, 3, 0, 0);
@@ -373,6 +387,9 @@ public final class FaultsTest {
         marks("a second word on the STACK is not behind a LOCAL", 4, 11, 0, 0, 0, 0, 1, 3, 2);
         build(OF_LONG, 2, 0, 8, 0, 4, 1, 7, 0, 26, 0);
         marks("a LONG over a LONG", 4, 2, 3, 0, 0, 0, 0);
+        build(OF_LONG, 4, 1, 7, 0, 0, 0, 6, 1, 26, 0);
+        marks("a LONG in the first LOCALS", 2, 2, 3, 0, 0, 0, 0);
+        marks("an INT behind its first word", 4, 0, 1, 0, 0, 0, 0);
     }
 
     private void pushes() {

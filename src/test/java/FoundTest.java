@@ -128,6 +128,8 @@ public final class FoundTest {
         due.same("17: the next is broken without fault", house.ofFrame(0, 5, 4), 0);
         build(2, 0, 14, 0);
         facts("where it begins", 5, 0, 10, 1, 0, 2, 3);
+        build(14, 2, 14, 8, 2, 0, 2, 0, 16, 6, 14, 8, 11, 0, 14, 1, 26, 0);
+        facts("a round for that alone", 5, 8, 10, 0, 0, 1, 3);
     }
 
     private void brokenWithoutFault() {

@@ -19,7 +19,9 @@ public final class RunTest {
         test.refusals();
         test.aheadOfAll();
         test.numbers();
+        test.numbersGoRound();
         test.words();
+        test.wordsBeneath();
         test.goes();
         test.references();
         test.fields();
@@ -33,6 +35,10 @@ public final class RunTest {
         test.constructors();
         test.wrongOnes();
         test.limit();
+        test.lastOfTheLimit();
+        test.objectsOfOneRun();
+        test.startsAnew();
+        test.marksOfFields();
         test.due.end();
     }
 
@@ -111,6 +117,56 @@ public final class RunTest {
         runs("a number", 1, 2, 0, 1, 2, -99);
         build(OF_LONGS, 1, 99, 24, 0);
         runs("a LONG", 1, 2, 0, 1, 2, 99);
+    }
+
+    /** As ints do, of LONGS as of INTS. */
+    private void numbersGoRound() {
+        int[][] sums = {{MAX, 1, MIN}, {MAX, 0, MAX}, {MIN, -1, MAX}, {MIN, 0, MIN}, {MAX, MAX, -2}, {MIN, MIN, 0},
+            {MAX, MIN, -1}, {1 << 30, 1 << 30, MIN}, {-1, -1, -2}, {MAX - 99, 99, MAX}, {MAX - 98, 99, MIN}};
+        for (int[] sum : sums) {
+            build(OF_INTS, 3, 1, 3, 2, 9, 0, 23, 0);
+            runs("INTS " + sum[0] + " and " + sum[1], sum[0], sum[1], 0, 3, 4, sum[2]);
+            build(OF_LONGS, 4, 1, 4, 3, 10, 0, 24, 0);
+            runs("LONGS " + sum[0] + " and " + sum[1], sum[0], sum[1], 0, 3, 4, sum[2]);
+            build(OF_LONGS, 4, 1, 4, 3, 10, 0, 7, 2, 5, 0, 4, 2, 21, 1, 5, 0, 20, 1, 24, 0);
+            runs("PUT and GET of the LONG", sum[0], sum[1], 0, 9, 10, sum[2]);
+            build(OF_INTS, 5, 0, 3, 1, 3, 2, 9, 0, 21, 0, 5, 0, 20, 0, 23, 0);
+            runs("PUT and GET of the INT", sum[0], sum[1], 0, 7, 8, sum[2]);
+        }
+        build(OF_INTS, 3, 1, 3, 2, 9, 0, 15, 6, 0, 1, 23, 0, 0, 2, 23, 0);
+        runs("GO, if it goes round to 0", MIN, MIN, 0, 7, 6, 2);
+        runs("and to what is not 0", MAX, MAX, 0, 5, 6, 1);
+        build(OF_INTS, 3, 1, 0, 99, 9, 0, 12, 0, 9, 0, 23, 0);
+        runs("round by DOUBLE", MAX, 0, 0, 5, 6, 2 * (MIN + 98));
+        build(OF_LONGS, 4, 1, 1, -99, 10, 0, 24, 0);
+        runs("round by a negative one", MIN + 98, 0, 0, 3, 4, MAX);
+        runs("not quite round", MIN + 99, 0, 0, 3, 4, MIN);
+    }
+
+    /** What is below the words that an INSTRUCTION takes stays as it is. */
+    private void wordsBeneath() {
+        build(OF_INTS, 0, 7, 3, 1, 3, 2, 9, 0, 6, 1, 23, 0);
+        runs("ADD of INTS, STORE", 5, 6, 0, 5, 6, 7);
+        build(OF_LONGS, 1, 7, 4, 1, 4, 3, 10, 0, 7, 1, 24, 0);
+        runs("ADD of LONGS, STORE", 5, 6, 0, 5, 6, 7);
+        build(OF_LONGS, 1, 7, 4, 1, 7, 3, 24, 0);
+        runs("STORE of a LONG", 5, 6, 0, 3, 4, 7);
+        build(OF_INTS, 0, 7, 3, 1, 3, 2, 13, 0, 11, 0, 11, 0, 23, 0);
+        runs("CHANGE", 5, 6, 0, 6, 7, 7);
+        build(OF_INTS, 0, 7, 5, 0, 3, 1, 21, 0, 23, 0);
+        runs("PUT", 5, 6, 0, 4, 5, 7);
+        build(OF_LONGS, 1, 7, 5, 0, 4, 1, 21, 1, 24, 0);
+        runs("PUT of a LONG", 5, 6, 0, 4, 5, 7);
+        build(OF_INTS, 0, 7, 5, 0, 20, 0, 11, 0, 23, 0);
+        runs("GET", 5, 6, 0, 4, 5, 7);
+        build(OF_INTS, 0, 7, 17, 2, 3, 1, 18, 1, 23, 0);
+        runs("NEW and INIT", 5, 6, 0, 4, 5, 7, -1, 31, 0, 1);
+        build(OF_LONGS, 1, 7, 5, 0, 0, 5, 19, 2, 7, 1, 24, 0);
+        runs("CALL", 5, 6, 0, 5, 6, 7);
+        build(OF_INTS, 0, 7, 5, 0, 28, 0, 5, 0, 29, 0, 23, 0);
+        runs("LOCK and FREE", 5, 6, 0, 5, 6, 7, -1, 63, 0);
+        build(OF_INTS, 0, 7, 5, 0, 22, 1, 16, 4, 3, 1, 15, 6, 23, 0);
+        runs("CAST and GO", 5, 6, 0, 6, 7, 7);
     }
 
     private void words() {
@@ -275,6 +331,10 @@ public final class RunTest {
     }
 
     private void locks() {
+        build(PLAIN, 5, 0, 28, 0, 5, 0, 28, 0, 5, 0, 29, 0, 5, 0, 29, 0, 26, 0);
+        runs("as many FREE as LOCK", 0, 0, 0, 8, 9, 0, -1, 511, 0);
+        house.put(4, 7, 11, 0);
+        runs("one FREE too few", 0, 0, 3, 8, 8, 0, -1, 255, 1);
         build(PLAIN, 5, 0, 28, 0, 5, 0, 28, 0, 5, 0, 29, 0, 2, 0, 27, 0);
         runs("THROW with a LOCK, without a range", 0, 0, 3, 7, 7, 0, -1, 127, 1);
         house.handler(4, 7, 8, 20, 0);
@@ -359,5 +419,76 @@ public final class RunTest {
         build(OF_INTS, 3, 1, 0, -1, 9, 0, 6, 1, 3, 1, 15, 7, 14, 0, 0, 5, 23, 0);
         runs("GIVE is the 200th", 28, 0, 0, 8, 197, 5);
         runs("GIVE behind it", 29, 0, 2, 4, 200, 0);
+    }
+
+    /** 195 INSTRUCTIONS are done ahead of the PLACE 7, and four more ahead of 11, which has the 200th. */
+    private void buildLong(int... steps) {
+        build(OF_INTS, 3, 1, 0, -1, 9, 0, 6, 1, 3, 1, 15, 7, 14, 0, 2, 0, 11, 0);
+        for (int i = 0; i < steps.length; i += 2) {
+            house.add(4, steps[i], steps[i + 1]);
+        }
+    }
+
+    /** The last one of 200 can still end it; what would come then is not asked any more. */
+    private void lastOfTheLimit() {
+        buildLong(0, 3, 0, 5, 23, 0);
+        runs("GIVE is the 200th", 28, 0, 0, 11, 200, 5, -1, 4095);
+        buildLong(0, 3, 0, 5, 0, 6, 23, 0);
+        runs("GIVE would be the 201st", 28, 0, 2, 12, 200, 0, -1, 4095);
+        buildLong(2, 0, 2, 0, 27, 0);
+        runs("THROW is the 200th", 28, 0, 1, 11, 200, 0, 0, 4095);
+        house.handler(4, 11, 12, 7, 0);
+        runs("THROW is the 200th, and caught", 28, 0, 2, 7, 200, 0, 0, 4095);
+        buildLong(2, 0, 2, 0, 2, 0, 27, 0);
+        runs("THROW would be the 201st", 28, 0, 2, 12, 200, 0, -1, 4095);
+        buildLong(2, 0, 2, 0, 9, 0, 23, 0);
+        runs("WRONG ahead of the 200th", 28, 0, 3, 11, 199, 0, -1, 2047);
+        buildLong(2, 0, 2, 0, 2, 0, 9, 0, 23, 0);
+        runs("WRONG would be ahead of the 201st", 28, 0, 2, 12, 200, 0, -1, 4095);
+        buildLong(2, 0, 2, 0, 14, 0);
+        runs("GO is the 200th", 28, 0, 2, 0, 200, 0, -1, 4095);
+        buildLong(2, 0, 5, 0, 28, 0, 26, 0);
+        runs("LOCK is the 200th", 28, 0, 2, 12, 200, 0, -1, 4095, 1);
+        buildLong(2, 0, 2, 0, 17, 1, 26, 0);
+        runs("NEW is the 200th", 28, 0, 2, 12, 200, 0, -1, 4095, 0, 1);
+    }
+
+    /** Each INSTRUCTION but the first ones makes an object, till 200 are done. */
+    private void objectsOfOneRun() {
+        build(OF_REFERENCES, 2, 0, 27, 0, 22, 1, 25, 0);
+        house.handler(4, 1, 3, 2, 0);
+        runs("CAST of what it threw", 2, 3, 2, 2, 200, 0, 0, 7, 0, 0, 1);
+    }
+
+    private void startsAnew() {
+        build(OF_REFERENCES, 5, 1, 16, 4, 5, 1, 8, 0, 5, 0, 25, 0);
+        runs("another object in the LOCAL 0", 2, -1, 0, 5, 6, 2);
+        runs("the own one is there again", -1, -1, 0, 5, 4, 1);
+        build(OF_INTS, 3, 1, 15, 6, 5, 0, 28, 0, 0, 1, 14, 2, 0, 3, 23, 0);
+        runs("with LOCKS and words", 1, 0, 3, 2, 26, 0, -1, 63, 6, 0, 1);
+        runs("without them", 0, 0, 0, 7, 4, 3, -1, 195, 0, 0, 2);
+        build(GIVES_INT, 5, 1, 16, 4, 5, 1, 27, 0, 0, 3, 23, 0);
+        runs("THROWN", 2, 0, 1, 3, 4, 0, 2, 15);
+        runs("nothing is THROWN", -1, 0, 0, 5, 4, 3, -1, 51);
+        build(PLAIN, 17, 1, 18, 0, 26, 0);
+        runs("one is made", 0, 0, 0, 2, 3, 0, -1, 7, 0, 1, 1);
+        runs("one again, not two", 0, 0, 0, 2, 3, 0, -1, 7, 0, 1, 2);
+        build(MAKER, 5, 0, 18, 0, 26, 0);
+        runs("DONE", 0, 0, 0, 2, 3);
+        house.put(4, 1, 11, 0);
+        runs("not DONE as it begins", 0, 0, 3, 2, 2);
+    }
+
+    /** What is got of a FIELD has the MARK of what was PUT there. */
+    private void marksOfFields() {
+        build(OF_REFERENCES, 5, 0, 5, 1, 21, 2, 5, 0, 20, 2);
+        house.field(2, 0, 0);
+        house.add(4, 20, 3);
+        house.add(4, 11, 0);
+        house.add(4, 2, 0);
+        house.add(4, 25, 0);
+        runs("the FIELD of a child", 2, -1, 0, 8, 9, -1);
+        runs("the parent has none", 1, -1, 3, 5, 5);
+        runs("NULL is PUT", -1, -1, 1, 5, 6, 0, 0);
     }
 }

@@ -1,3 +1,8 @@
+import java.math.BigInteger;
+import java.util.ArrayList;
+import java.util.Collections;
+import java.util.List;
+
 /** Promises 23 to 26: what would be, and the digest. */
 public final class WouldTest {
     private static final int MAX = Integer.MAX_VALUE;
@@ -12,6 +17,7 @@ public final class WouldTest {
         test.verdictBy();
         test.digestOfNew();
         test.digest();
+        test.digestWrapsAround();
         test.due.end();
     }
 
@@ -113,19 +119,67 @@ public final class WouldTest {
         due.same("26: of a new one", new FramemapHouse().digest(), sum);
     }
 
-    private void digest() {
+    private static FramemapHouse houseToSum() {
         FramemapHouse house = house(0, 5, 1, 20, 0, 23, 0, 11, 0, 26, 0);
         house.handler(0, 0, 1, 3, 0);
         house.add(1, 5, 0);
         house.add(1, 18, 1);
         house.add(1, 26, 0);
         house.suggest(0);
+        return house;
+    }
+
+    private void digest() {
+        FramemapHouse house = houseToSum();
         due.same("26: ahead of a run", house.digest(), summed(house));
         house.run(0, 1, 0);
         due.same("26: behind a run", house.digest(), summed(house));
-        house.put(0, 0, 11, 0);
-        due.same("26: with a broken one", house.digest(), summed(house));
-        due.same("26: once more", house.digest(), summed(house));
+        FramemapHouse broken = houseToSum();
+        broken.put(0, 0, 11, 0);
+        due.same("26: with a broken one", broken.digest(), summed(broken));
+        due.same("26: once more", broken.digest(), broken.digest());
+    }
+
+    /** As numbers without an end, of which the last 64 bits count, the first of them as a sign. */
+    private void digestWrapsAround() {
+        BigInteger sum = BigInteger.valueOf(58139);
+        sum = sum.multiply(BigInteger.valueOf(31)).add(BigInteger.ONE);
+        for (int i = 0; i < 15; i++) {
+            sum = sum.multiply(BigInteger.valueOf(31));
+        }
+        due.same("26: it goes beyond 64 bits", sum.bitLength() > 64, true);
+        due.same("26: of a new one", new FramemapHouse().digest(), sum.longValue());
+        int positive = 0;
+        int negative = 0;
+        FramemapHouse house = new FramemapHouse();
+        house.method(0, false, -1, -1, -1);
+        for (int place = 0; place < 24; place++) {
+            house.add(0, 26, 0);
+            long digest = house.digest();
+            due.same("26: of " + place, digest, summedWithoutEnd(place + 1));
+            positive += digest > 0 ? 1 : 0;
+            negative += digest < 0 ? 1 : 0;
+        }
+        due.same("26: some are above 0", positive > 0, true);
+        due.same("26: some are below 0", negative > 0, true);
+    }
+
+    /** Of a house with one CLASS and one METHOD that gives nothing at each of its PLACES. */
+    private static long summedWithoutEnd(int places) {
+        ArrayList<Integer> numbers = new ArrayList<>(List.of(1, 0, 1, places, 1,
+                places == 1 ? 1 : 0, 0));
+        numbers.addAll(List.of(0, -1, places == 1 ? 0 : 10, places == 1 ? -1 : 1, places - 1, 0, 1, 0, 0));
+        numbers.add(0);
+        numbers.addAll(List.of(1, 0, 0, 1, 0, 10, 0, 0, 0, 0, 0));
+        for (int place = 1; place < places; place++) {
+            numbers.addAll(List.of(0, -1, -1, -1, 0));
+        }
+        numbers.addAll(Collections.nCopies(9, 0));
+        BigInteger sum = BigInteger.valueOf(58139);
+        for (int number : numbers) {
+            sum = sum.multiply(BigInteger.valueOf(31)).add(BigInteger.valueOf(number));
+        }
+        return sum.longValue();
     }
 
     private static long summed(FramemapHouse house) {
