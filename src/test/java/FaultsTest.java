@@ -20,6 +20,7 @@ public final class FaultsTest {
         test.wrongReferences();
         test.wrongObjects();
         test.wrongSingles();
+        test.halvesOfLongs();
         test.wrongLoads();
         test.noWay();
         test.keptOut();
@@ -31,6 +32,8 @@ public final class FaultsTest {
         test.storesIntoLocals();
         test.pushes();
         test.makesReady();
+        test.callsWithoutResult();
+        test.doneStaysDone();
         test.due.end();
     }
 
@@ -244,11 +247,75 @@ public final class FaultsTest {
         fine("PROTECTED of the parent, by the own class", OF_CHILD, 5, 2, 20, 1, 26, 0);
         fine("PROTECTED of the parent, by NULL", OF_CHILD, 2, 0, 20, 1, 26, 0);
         fault("PROTECTED of the parent, by the parent", 6, 1, OF_CHILD, 5, 1, 20, 1, 26, 0);
+        protectedOfOnePackage();
         fault("PROTECTED of the parent, PUT", 6, 2, OF_CHILD, 5, 1, 1, 1, 21, 1, 26, 0);
         marks("GET and PUT do the rest", 3, 12, 11, 12, 0, 0, 0);
         build(far, 5, 2, 20, 1, 26, 0);
         house.kind(0, false, 3);
         fault("PROTECTED of the parent, by OBJECT", 2, 1, new int[] {2, 0, 10, -1, -1}, 5, 1, 20, 1, 26, 0);
+    }
+
+    /** In one PACKAGE the object can be of the parent, too. */
+    private void protectedOfOnePackage() {
+        for (int where = 0; where <= 1; where++) {
+            FramemapHouse other = new FramemapHouse();
+            other.kind(0, false, 1);
+            other.kind(1, false, where);
+            other.field(1, 0, 2);
+            other.method(2, false, 11, 12, -1);
+            other.add(0, 5, 1);
+            other.add(0, 20, 0);
+            other.add(0, 26, 0);
+            due.same("16: PROTECTED, by the parent, of " + where, other.ofMethod(0, 0), where == 1 ? 0 : 6);
+            due.same("16: PROTECTED, by a child, of " + where, other.verdictWith(0, 0, 5, 2), 0);
+            due.same("19: PROTECTED, by the parent, of " + where, other.run(0, 1, 2), where == 1 ? 0 : 3);
+            due.same("19: PROTECTED, by a child, of " + where, other.run(0, 2, 2), 0);
+        }
+    }
+
+    /** What a MAP says at the PLACE 1, ahead of the INSTRUCTION there; GIVE stands behind it. */
+    private void byMap(String label, int fault, int op, int a, int... words) {
+        build(PLAIN, 26, 0, op, a, 26, 0);
+        house.map(5, 1, words.length, 0, true);
+        for (int word = 0; word < words.length; word++) {
+            house.word(5, 1, 6 + word, words[word]);
+        }
+        due.same("16: " + label + ", by maps", house.ofMethod(5, 2), fault);
+        // GIVE with the LOCK, and what nothing comes to, are behind it.
+        boolean isBehind = (op == 28 && fault == 9) || (op == 27 && fault == 10);
+        due.same("16: " + label + ", its place", house.ofMethod(5, 3), fault == 0 ? -1 : isBehind ? 2 : 1);
+    }
+
+    /** LONGS of which one word is none, and words of a LONG alone, come by MAPS. */
+    private void halvesOfLongs() {
+        int[] others = {0, 1, 2, 3, 4, 5, 11, 102};
+        for (int mark : others) {
+            byMap("STORE of a LONG, first " + mark, mark == 2 ? 0 : 2, 7, 1, mark, 3);
+            byMap("STORE of a LONG, second " + mark, mark == 3 ? 0 : 2, 7, 1, 2, mark);
+            byMap("ADD of LONGS, first " + mark, mark == 2 ? 0 : 2, 10, 0, mark, 3, 2, 3);
+            byMap("ADD of LONGS, second " + mark, mark == 3 ? 0 : 2, 10, 0, 2, mark, 2, 3);
+            byMap("ADD of LONGS, third " + mark, mark == 2 ? 0 : 2, 10, 0, 2, 3, mark, 3);
+            byMap("ADD of LONGS, fourth " + mark, mark == 3 ? 0 : 2, 10, 0, 2, 3, 2, mark);
+            byMap("PUT of a LONG, first " + mark, mark == 2 ? 0 : 2, 21, 1, 11, mark, 3);
+            byMap("PUT of a LONG, second " + mark, mark == 3 ? 0 : 2, 21, 1, 11, 2, mark);
+            byMap("CALL with a LONG, first " + mark, mark == 2 ? 0 : 2, 19, 2, 11, mark, 3, 4);
+            byMap("CALL with a LONG, second " + mark, mark == 3 ? 0 : 2, 19, 2, 11, 2, mark, 4);
+            boolean isSingle = mark != 0 && mark != 2 && mark != 3;
+            byMap("POP of " + mark, isSingle ? 0 : 2, 11, 0, mark);
+            byMap("DOUBLE of " + mark, isSingle ? 0 : 2, 12, 0, mark);
+            byMap("CHANGE, below " + mark, isSingle ? 0 : 2, 13, 0, mark, 1);
+            byMap("CHANGE, above " + mark, isSingle ? 0 : 2, 13, 0, 1, mark);
+            boolean isReference = mark == 4 || mark == 11;
+            byMap("STORE of " + mark, isSingle && mark != 1 ? 0 : 2, 8, 1, mark);
+            byMap("STORE as an INT of " + mark, mark == 1 ? 0 : 2, 6, 1, mark);
+            byMap("GO, if 0, of " + mark, mark == 1 ? 10 : 2, 15, 2, mark);
+            byMap("GO, if NULL, of " + mark, isReference ? 10 : 2, 16, 2, mark);
+            byMap("CAST of " + mark, isReference ? 0 : 2, 22, 4, mark);
+            byMap("LOCK of " + mark, isReference ? 9 : 2, 28, 0, mark);
+            byMap("FREE of " + mark, isReference ? 9 : 2, 29, 0, mark);
+            byMap("THROW of " + mark, isReference ? 10 : 2, 27, 0, mark);
+            byMap("GET of " + mark, isReference ? 0 : 2, 20, 0, mark);
+        }
     }
 
     private void unmadeInit() {
@@ -292,6 +359,11 @@ public final class FaultsTest {
         due.same("16: its place", house.ofMethod(5, 3), 1);
         house.word(5, 1, 6, 102);
         due.same("16: NEW with another one on the STACK", house.ofMethod(5, 2), 0);
+        build(PLAIN, 26, 0, 11, 0, 17, 1, 26, 0);
+        house.map(5, 1, 1, 0, true);
+        house.word(5, 1, 6, 102);
+        due.same("16: NEW with the same that is gone", house.ofMethod(5, 2), 0);
+        fine("GO back with MADE that is gone", PLAIN, 17, 1, 11, 0, 14, 0);
         fault("GO back with MADE on the STACK", 5, 1, PLAIN, 2, 0, 17, 1, 14, 1);
         fault("GO back with MADE on the STACK", 7, 2, PLAIN, 17, 1, 0, 0, 15, 1, 26, 0);
         fault("GO back with MADE in a LOCAL", 7, 2, PLAIN, 17, 1, 8, 1, 14, 0);
@@ -422,6 +494,7 @@ public final class FaultsTest {
         house.word(5, 1, 3, 101);
         due.same("16: MADE at this place is NOTHING", house.ofMethod(5, 2), 3);
         due.same("16: its place", house.ofMethod(5, 3), 2);
+        newMakesLocalsNothing();
         build(PLAIN, 17, 1, 12, 0, 8, 3, 12, 0, 18, 0, 26, 0);
         marks("MADE", 4, 11, 0, 0, 100, 0, 0, 100, 100);
         marks("all that are the same", 5, 11, 0, 0, 11, 0, 0, 11);
@@ -435,5 +508,63 @@ public final class FaultsTest {
         due.same("18: the LOCAL meets NOTHING", house.mark(5, 0, 2), 0);
         build(PLAIN, 17, 1, 8, 2, 14, 3, 17, 1, 8, 2, 14, 3);
         marks("NEW again: LOCALS are NOTHING", 4, 11, 0, 0, 0, 0, 0, 103);
+    }
+
+    /** NEW of the CLASS 1 at the PLACE 2, with LOCALS that are MADE there, and at the PLACE 1; a MAP behind it. */
+    private void newMakesLocalsNothing() {
+        for (int mark : new int[] {0, 1, 2, 3, 4, 5, 11, 101, 102}) {
+            build(PLAIN, 26, 0, 26, 0, 17, 1, 26, 0);
+            house.map(5, 1, 0, 0, true);
+            house.map(5, 2, 0, 0, true);
+            house.word(5, 2, 0, 102);
+            house.word(5, 2, 3, 102);
+            house.word(5, 2, 4, 101);
+            house.word(5, 2, 5, 102);
+            house.map(5, 3, 1, 0, true);
+            house.word(5, 3, 6, 102);
+            house.word(5, 3, 4, 101);
+            due.same("16: only those at its PLACE", house.ofMethod(5, 2), 0);
+            for (int local : new int[] {0, 3, 5}) {
+                house.word(5, 3, local, mark);
+                due.same("16: NOTHING is no " + mark, house.ofMethod(5, 2), mark == 0 ? 0 : 10);
+                house.word(5, 3, local, 0);
+            }
+            house.word(5, 3, 4, mark);
+            due.same("16: MADE at 1 is no " + mark, house.ofMethod(5, 2), mark == 0 || mark == 101 ? 0 : 10);
+        }
+    }
+
+    private void callsWithoutResult() {
+        FramemapHouse other = new FramemapHouse();
+        int[] results = {-1, 0, 1, 10};
+        int[][] pushed = {{}, {1}, {2, 3}, {10}};
+        for (int method = 0; method < 4; method++) {
+            other.method(0, false, 1, 0, results[method]);
+        }
+        other.method(0, false, -1, -1, -1);
+        for (int method = 0; method < 4; method++) {
+            for (int[] step : new int[][] {{0, 7}, {5, 0}, {1, 1}, {0, 1}, {19, method}, {26, 0}}) {
+                other.add(4, step[0], step[1]);
+            }
+            due.same("16: CALL of " + method, other.ofMethod(4, 0), 0);
+            due.same("17: words ahead of the CALL", other.ofFrame(4, 4, 1), 5);
+            due.same("17: words behind the CALL", other.ofFrame(4, 5, 1), 1 + pushed[method].length);
+            due.same("18: what is below", other.mark(4, 5, 6), 1);
+            for (int word = 0; word < pushed[method].length; word++) {
+                due.same("18: the RESULT", other.mark(4, 5, 7 + word), pushed[method][word]);
+            }
+            for (int left = 6; left > 0; left--) {
+                other.cut(4);
+            }
+        }
+    }
+
+    private void doneStaysDone() {
+        fine("INIT of another one, behind that of HALF", MAKER, 5, 0, 18, 0, 17, 1, 18, 0, 26, 0);
+        due.same("17: DONE", house.ofFrame(5, 4, 3), 1);
+        fault("INIT of another one alone", 7, 2, MAKER, 17, 1, 18, 0, 26, 0);
+        due.same("17: not DONE", house.ofFrame(5, 2, 3), 0);
+        fine("INIT of HALF, with another one MADE", MAKER, 17, 1, 5, 0, 18, 0, 18, 0, 26, 0);
+        marks("MADE stays MADE", 3, 11, 11, 0, 0, 0, 0, 100);
     }
 }

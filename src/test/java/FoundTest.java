@@ -130,6 +130,10 @@ public final class FoundTest {
         facts("where it begins", 5, 0, 10, 1, 0, 2, 3);
         build(14, 2, 14, 8, 2, 0, 2, 0, 16, 6, 14, 8, 11, 0, 14, 1, 26, 0);
         facts("a round for that alone", 5, 8, 10, 0, 0, 1, 3);
+        build(14, 2, 14, 9, 2, 0, 11, 0, 2, 0, 16, 9, 0, 1, 11, 0, 14, 1, 26, 0);
+        facts("words that are gone do not meet", 0, -1, 10, 0, 0, 0, 2);
+        due.same("15: where GO goes to", house.suggest(0), 3);
+        facts("words that are gone are not asked", 0, -1, 0, -1, 0, 0, 2);
     }
 
     private void brokenWithoutFault() {

@@ -266,6 +266,11 @@ public final class RunTest {
         runs("a CALL gives 0", 1, 0, 0, 3, 4, 0);
         build(OF_REFERENCES, 5, 1, 19, 3, 25, 0);
         runs("a CALL gives NULL", 1, -1, 0, 2, 3, -1);
+        build(OF_INTS, 0, 7, 5, 0);
+        house.method(1, false, -1, -1, -1);
+        house.add(4, 19, 5);
+        house.add(4, 23, 0);
+        runs("a CALL gives nothing", 1, 2, 0, 3, 4, 7);
     }
 
     private void nullThrows() {
@@ -354,6 +359,10 @@ public final class RunTest {
         runs("till the STACK is full", 0, 0, 3, 0, 12, 0, -1, 3, 0, 6);
         build(PLAIN, 17, 1, 5, 1, 16, 0, 18, 0, 26, 0);
         runs("LOAD of NOTHING", 0, 0, 3, 1, 1, 0, -1, 1, 0, 1);
+        for (int number = -1; number <= 3; number++) {
+            build(OF_INTS, 17, 1, 0, number, 6, 3, 1, number, 7, 4, 18, 0, 4, 4, 7, 1, 3, 3, 23, 0);
+            runs("INIT changes no number " + number, 5, 6, 0, 9, 10, number, -1, 1023, 0, 1);
+        }
         // Two objects made at one place: only that one on top becomes ready.
         build(GIVES_INT, 17, 1, 5, 1, 16, 6, 2, 0, 8, 1, 14, 0, 12, 0, 18, 0, 20, 0, 11, 0, 18, 0, 0, 4, 23, 0);
         runs("INIT of the very object", 1, 0, 0, 12, 16, 4, -1, 8191, 0, 2);
@@ -378,6 +387,12 @@ public final class RunTest {
     private void constructors() {
         build(MAKER, 5, 0, 18, 0, 5, 0, 20, 0, 11, 0, 26, 0);
         runs("HALF, then the own class", 0, 0, 0, 5, 6, 0, -1, 63, 0, 0);
+        build(MAKER, 5, 0, 18, 0, 17, 1, 18, 0, 26, 0);
+        runs("DONE, and then another one", 0, 0, 0, 4, 5, 0, -1, 31, 0, 1);
+        build(MAKER, 17, 1, 5, 0, 18, 0, 18, 0, 26, 0);
+        runs("another one, and then DONE", 0, 0, 0, 4, 5, 0, -1, 31, 0, 1);
+        build(MAKER, 17, 1, 18, 0, 26, 0);
+        runs("another one alone", 0, 0, 3, 2, 2, 0, -1, 3, 0, 1);
         build(MAKER, 26, 0);
         runs("GIVE of what is not DONE", 0, 0, 3, 0, 0, 0, -1, 0);
         build(MAKER, 5, 0, 20, 0, 26, 0);
