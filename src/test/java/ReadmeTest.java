@@ -11,7 +11,6 @@ import java.util.List;
 import java.util.regex.Matcher;
 import java.util.regex.Pattern;
 import java.util.stream.Stream;
-import javax.tools.ToolProvider;
 
 /** Makes the calls that stand in README.md, and looks whether they answer as it says behind them. */
 public final class ReadmeTest {
@@ -88,8 +87,8 @@ public final class ReadmeTest {
             Path file = room.resolve("ReadmeCalls.java");
             Files.writeString(file, source.append("} }\n"));
             String path = System.getProperty("java.class.path");
-            int compiled = ToolProvider.getSystemJavaCompiler().run(null, null, null, "-proc:none", "-cp", path,
-                    "-d", room.toString(), file.toString());
+            int compiled = new ProcessBuilder("javac", "-encoding", "UTF-8", "-proc:none", "-cp", path,
+                    "-d", room.toString(), file.toString()).inheritIO().start().waitFor();
             same("compiling the calls of README.md", compiled, 0);
             if (compiled == 0) {
                 try (URLClassLoader loader = new URLClassLoader(new URL[] {room.toUri().toURL()})) {
